@@ -49,6 +49,11 @@ public final class MirrorTube {
     private static final int HEAVY = 2;
     private static final int GLUED = 3;
 
+    // What rows of TURNS are to bring about.
+    private static final int WANTED = 0;
+    private static final int AFTER = 1;
+    private static final int AS_NOW = 2;
+
     private static final int MOST_CLICKS = 6;
     private static final int HAND_CLICKS = 3;
     private static final int LONGEST_WANTED = 5;
@@ -247,14 +252,16 @@ public final class MirrorTube {
         if (noTube()) {
             return refuse(NONE_SUCH);
         }
-        return answer(fewestToWant());
+        aimAt(WANTED);
+        return answer(rows.fewestTurns(LONGEST_WANTED));
     }
 
     public int turnAt(int i) {
         if (noTube()) {
             return refuse(NONE_SUCH);
         }
-        int turns = fewestToWant();
+        aimAt(WANTED);
+        int turns = rows.fewestTurns(LONGEST_WANTED);
         if (turns == NOTHING) {
             return refuse(THERE_IS_NONE);
         }
@@ -301,7 +308,7 @@ public final class MirrorTube {
         if (!isMadeLength(n)) {
             return refuse(BAD_NUMBER);
         }
-        aimAtAfter();
+        aimAt(AFTER);
         return answer(rows.rowsToGoal(n, 0, 0));
     }
 
@@ -312,7 +319,7 @@ public final class MirrorTube {
         if (!isMadeLength(n)) {
             return refuse(BAD_NUMBER);
         }
-        aimAtAfter();
+        aimAt(AFTER);
         if (i < 0 || i >= rows.rowsToGoal(n, 0, 0)) {
             return refuse(NONE_SUCH);
         }
@@ -323,7 +330,7 @@ public final class MirrorTube {
         if (noTube()) {
             return refuse(NONE_SUCH);
         }
-        aimAtAfter();
+        aimAt(AFTER);
         return answer(rows.fewestTurns(LONGEST_MADE));
     }
 
@@ -334,7 +341,7 @@ public final class MirrorTube {
         if (!isMadeLength(n)) {
             return refuse(BAD_NUMBER);
         }
-        aimAtSame();
+        aimAt(AS_NOW);
         return answer(rows.rowsToGoal(n, 0, 0));
     }
 
@@ -767,28 +774,22 @@ public final class MirrorTube {
 
     // ---- parts of the calls
 
-    private int fewestToWant() {
+    private void aimAt(int goal) {
         for (int byPlain = 0; byPlain < CELLS; byPlain++) {
             for (int byHeavy = 0; byHeavy < CELLS; byHeavy++) {
-                rows.aim(byPlain, byHeavy, scene.allRight(byPlain, byHeavy));
-            }
-        }
-        return rows.fewestTurns(LONGEST_WANTED);
-    }
-
-    private void aimAtAfter() {
-        for (int byPlain = 0; byPlain < CELLS; byPlain++) {
-            for (int byHeavy = 0; byHeavy < CELLS; byHeavy++) {
-                rows.aim(byPlain, byHeavy, scene.plan.allAfter(byPlain, byHeavy));
+                rows.aim(byPlain, byHeavy, isAt(goal, byPlain, byHeavy));
             }
         }
     }
 
-    private void aimAtSame() {
-        for (int byPlain = 0; byPlain < CELLS; byPlain++) {
-            for (int byHeavy = 0; byHeavy < CELLS; byHeavy++) {
-                rows.aim(byPlain, byHeavy, scene.plan.movesNone(byPlain, byHeavy));
-            }
+    private boolean isAt(int goal, int byPlain, int byHeavy) {
+        switch (goal) {
+            case WANTED:
+                return scene.allRight(byPlain, byHeavy);
+            case AFTER:
+                return scene.plan.allAfter(byPlain, byHeavy);
+            default:
+                return scene.plan.movesNone(byPlain, byHeavy);
         }
     }
 
@@ -854,10 +855,6 @@ public final class MirrorTube {
 
     // ---- cells, countries and spots
 
-    private static int onRing(int cell) {
-        return Math.floorMod(cell, CELLS);
-    }
-
     private static int half(int clicks) {
         return clicks / 2;
     }
@@ -872,12 +869,14 @@ public final class MirrorTube {
 
     /** The cell of the tube that a country's cell shows. */
     private static int tubeCell(int country, int cell) {
-        return runsUpwards(country) ? onRing(cell - 2 * country) : onRing(LAST_CELL - cell + 2 * country);
+        int unrolled = runsUpwards(country) ? cell - 2 * country : LAST_CELL - cell + 2 * country;
+        return Math.floorMod(unrolled, CELLS);
     }
 
     /** The cell of a country that shows a cell of the tube. */
     private static int mirroredCell(int country, int cell) {
-        return runsUpwards(country) ? onRing(cell + 2 * country) : onRing(LAST_CELL - cell + 2 * country);
+        int unrolled = runsUpwards(country) ? cell + 2 * country : LAST_CELL - cell + 2 * country;
+        return Math.floorMod(unrolled, CELLS);
     }
 
     // A spot numbers the cells of all countries in the order in which one meets them going UP.
@@ -1018,13 +1017,13 @@ public final class MirrorTube {
         int cellMoved(int b, int cell, int byPlain, int byHeavy) {
             switch (sort[b]) {
                 case LIGHT:
-                    return onRing(cell + 2 * byPlain);
+                    return Math.floorMod(cell + 2 * byPlain, CELLS);
                 case PLAIN:
-                    return onRing(cell + byPlain);
+                    return Math.floorMod(cell + byPlain, CELLS);
                 case HEAVY:
-                    return onRing(cell + byHeavy);
+                    return Math.floorMod(cell + byHeavy, CELLS);
                 default:
-                    return onRing(cell);
+                    return cell;
             }
         }
 
@@ -1111,11 +1110,11 @@ public final class MirrorTube {
 
         int topIn(int cell, int byPlain, int byHeavy) {
             int top = NOTHING;
-            int heaviest = 0;
+            int heaviest = NONE;
             for (int b = 0; b < plan.bits; b++) {
-                if (plan.weight(b) > heaviest && cellBehind(b, byPlain, byHeavy) == cell) {
+                if (plan.sort[b] > heaviest && plan.cellMoved(b, now[b], byPlain, byHeavy) == cell) {
                     top = b;
-                    heaviest = plan.weight(b);
+                    heaviest = plan.sort[b];
                 }
             }
             return top;
@@ -1133,7 +1132,7 @@ public final class MirrorTube {
         int heldCells(int byPlain, int byHeavy) {
             int cells = 0;
             for (int b = 0; b < plan.bits; b++) {
-                cells |= 1 << cellBehind(b, byPlain, byHeavy);
+                cells |= 1 << plan.cellMoved(b, now[b], byPlain, byHeavy);
             }
             return cells;
         }
@@ -1158,14 +1157,10 @@ public final class MirrorTube {
             return found;
         }
 
-        boolean isRight(int b, int byPlain, int byHeavy) {
-            return cellBehind(b, byPlain, byHeavy) == plan.wantCell[b];
-        }
-
         int rightBits(int byPlain, int byHeavy) {
             int found = 0;
             for (int b = 0; b < plan.bits; b++) {
-                if (isRight(b, byPlain, byHeavy)) {
+                if (cellBehind(b, byPlain, byHeavy) == plan.wantCell[b]) {
                     found |= asBit(b);
                 }
             }
@@ -1173,12 +1168,17 @@ public final class MirrorTube {
         }
 
         boolean allRight(int byPlain, int byHeavy) {
-            return Integer.bitCount(rightBits(byPlain, byHeavy)) == plan.wants;
+            for (int b = 0; b < plan.bits; b++) {
+                if (plan.wantCell[b] != NOTHING && cellBehind(b, byPlain, byHeavy) != plan.wantCell[b]) {
+                    return false;
+                }
+            }
+            return true;
         }
 
         // Single steps of a plain and of a heavy bit can be turned; a light one goes by twos.
         boolean canLie(int b, int cell) {
-            int off = onRing(cell - cellBehind(b, 0, 0));
+            int off = cell - now[b];
             if (plan.sort[b] == GLUED) {
                 return off == 0;
             }
@@ -1191,7 +1191,7 @@ public final class MirrorTube {
 
         // No WORD has the number 0, so it can stand for the colour of nothing.
         long colourAt(int country, int cell) {
-            int b = shownAt(country, cell);
+            int b = topIn(tubeCell(country, cell), 0, 0);
             return b < 0 ? 0 : plan.colour[b];
         }
 
@@ -1269,7 +1269,7 @@ public final class MirrorTube {
         }
 
         int stepInto(int spot) {
-            int b = shownAt(countryAt(spot), cellAt(spot));
+            int b = topIn(tubeCell(countryAt(spot), cellAt(spot)), 0, 0);
             return b < 0 ? 1 : 1 + plan.weight(b);
         }
 
@@ -1398,7 +1398,7 @@ public final class MirrorTube {
         }
 
         static int shiftOf(int byPlain, int byHeavy) {
-            return onRing(byPlain) * CELLS + onRing(byHeavy);
+            return Math.floorMod(byPlain, CELLS) * CELLS + Math.floorMod(byHeavy, CELLS);
         }
 
         void aim(int byPlain, int byHeavy, boolean good) {
@@ -1486,6 +1486,22 @@ public final class MirrorTube {
         static final int LONGEST_WORD = 8;
         static final int LONGEST_WHOLE = 3;
 
+        // Words as the numbers of their letters' bytes: eight of them fit a long.
+        static final long TUBE = 0x74756265L;
+        static final long BIT = 0x626974L;
+        static final long WANT = 0x77616e74L;
+        static final long AFTER = 0x6166746572L;
+        static final long MET = 0x6d6574L;
+        static final long HOLIDAY = 0x686f6c69646179L;
+        static final long PERSON = 0x706572736f6eL;
+        static final long ROLLS = 0x726f6c6c73L;
+        static final long LIGHT = 0x6c69676874L;
+        static final long PLAIN = 0x706c61696eL;
+        static final long HEAVY = 0x6865617679L;
+        static final long GLUED = 0x676c756564L;
+        static final long AT = 0x6174L;
+        static final long IN = 0x696eL;
+
         final byte[] text = new byte[TAPE_ROOM];
         int length;
         int end;
@@ -1509,65 +1525,39 @@ public final class MirrorTube {
             at = 0;
         }
 
+        // A run of like signs is taken whole: one that is too long is no TOKEN at all.
         void next() {
             while (at < end && text[at] == ' ') {
                 at++;
             }
             place = at;
-            if (at >= end) {
-                kind = END;
-            } else if (isLetter(text[at])) {
-                takeWord();
-            } else if (isDigit(text[at])) {
-                takeWhole();
-            } else {
-                kind = text[at] == ';' ? SEMICOLON : NO_TOKEN;
-                at++;
-            }
-        }
-
-        // The length is looked at behind the loop: a run that is too long is no TOKEN at all.
-        void takeWord() {
             word = 0;
-            while (at < end && isLetter(text[at])) {
-                word = withLetter(word, text[at]);
-                at++;
-            }
-            kind = at - place <= LONGEST_WORD ? WORD : NO_TOKEN;
-        }
-
-        void takeWhole() {
             whole = 0;
-            while (at < end && isDigit(text[at])) {
+            kind = at < end ? kindOf(text[at]) : END;
+            boolean goesOn = kind != END;
+            while (goesOn && at < end) {
+                word = word << 8 | text[at];
                 whole = 10 * whole + text[at] - '0';
                 at++;
+                goesOn = (kind == WORD || kind == WHOLE) && at < end && kindOf(text[at]) == kind;
             }
-            kind = at - place <= LONGEST_WHOLE ? WHOLE : NO_TOKEN;
-        }
-
-        boolean isWord(String spelled) {
-            return kind == WORD && word == numberOf(spelled);
-        }
-
-        // Eight letters of five bits fit a long, so words are compared as numbers.
-        static long numberOf(String spelled) {
-            long number = 0;
-            for (int i = 0; i < spelled.length(); i++) {
-                number = withLetter(number, spelled.charAt(i));
+            if (kind == WORD && at - place > LONGEST_WORD || kind == WHOLE && at - place > LONGEST_WHOLE) {
+                kind = NO_TOKEN;
             }
-            return number;
         }
 
-        static long withLetter(long number, int letter) {
-            return 32 * number + letter - 'a' + 1;
+        static int kindOf(int sign) {
+            if (sign >= 'a' && sign <= 'z') {
+                return WORD;
+            }
+            if (sign >= '0' && sign <= '9') {
+                return WHOLE;
+            }
+            return sign == ';' ? SEMICOLON : NO_TOKEN;
         }
 
-        static boolean isLetter(int sign) {
-            return sign >= 'a' && sign <= 'z';
-        }
-
-        static boolean isDigit(int sign) {
-            return sign >= '0' && sign <= '9';
+        boolean isWord(long spelled) {
+            return kind == WORD && word == spelled;
         }
     }
 
@@ -1612,32 +1602,32 @@ public final class MirrorTube {
             if (tape.kind != Tape.WORD || !startsLine()) {
                 return fails(FORM);
             }
-            if (tape.isWord("tube")) {
+            if (tape.isWord(Tape.TUBE)) {
                 return readsTube();
             }
             if (!hasTube) {
                 return fails(LACKS);
             }
-            if (tape.isWord("bit")) {
+            if (tape.isWord(Tape.BIT)) {
                 return readsBit();
             }
-            if (tape.isWord("want")) {
+            if (tape.isWord(Tape.WANT)) {
                 return readsWant();
             }
-            if (tape.isWord("after")) {
+            if (tape.isWord(Tape.AFTER)) {
                 return readsAfter();
             }
-            if (tape.isWord("met")) {
+            if (tape.isWord(Tape.MET)) {
                 return readsMet();
             }
-            return tape.isWord("holiday") ? readsHoliday() : readsPerson();
+            return tape.isWord(Tape.HOLIDAY) ? readsHoliday() : readsPerson();
         }
 
         // The words that start lines are just those that are no NAMES.
         boolean startsLine() {
-            return tape.isWord("tube") || tape.isWord("bit") || tape.isWord("want")
-                    || tape.isWord("after") || tape.isWord("met") || tape.isWord("holiday")
-                    || tape.isWord("person");
+            return tape.isWord(Tape.TUBE) || tape.isWord(Tape.BIT) || tape.isWord(Tape.WANT)
+                    || tape.isWord(Tape.AFTER) || tape.isWord(Tape.MET) || tape.isWord(Tape.HOLIDAY)
+                    || tape.isWord(Tape.PERSON);
         }
 
         boolean readsTube() {
@@ -1645,7 +1635,7 @@ public final class MirrorTube {
                 return fails(AGAIN);
             }
             hasTube = true;
-            if (!readsWord("rolls") || !readsWhole(HUNDRED)) {
+            if (!readsWord(Tape.ROLLS) || !readsWhole(HUNDRED)) {
                 return false;
             }
             draft.chance = tape.whole;
@@ -1669,7 +1659,7 @@ public final class MirrorTube {
                 return false;
             }
             long colour = tape.word;
-            if (!readsPlace("at", LAST_CELL)) {
+            if (!readsWord(Tape.AT) || !readsWhole(LAST_CELL)) {
                 return false;
             }
             draft.addBit(name, sort, colour, tape.whole);
@@ -1677,21 +1667,21 @@ public final class MirrorTube {
         }
 
         int sortTold() {
-            if (tape.isWord("light")) {
+            if (tape.isWord(Tape.LIGHT)) {
                 return LIGHT;
             }
-            if (tape.isWord("plain")) {
+            if (tape.isWord(Tape.PLAIN)) {
                 return PLAIN;
             }
-            if (tape.isWord("heavy")) {
+            if (tape.isWord(Tape.HEAVY)) {
                 return HEAVY;
             }
-            return tape.isWord("glued") ? GLUED : NONE;
+            return tape.isWord(Tape.GLUED) ? GLUED : NONE;
         }
 
         boolean readsWant() {
             int b = readsOldBit(draft.wantCell);
-            if (b == NONE || !readsPlace("at", LAST_CELL)) {
+            if (b == NONE || !readsWord(Tape.AT) || !readsWhole(LAST_CELL)) {
                 return false;
             }
             draft.wantCell[b] = tape.whole;
@@ -1701,7 +1691,7 @@ public final class MirrorTube {
 
         boolean readsAfter() {
             int b = readsOldBit(draft.afterCell);
-            if (b == NONE || !readsPlace("at", LAST_CELL)) {
+            if (b == NONE || !readsWord(Tape.AT) || !readsWhole(LAST_CELL)) {
                 return false;
             }
             draft.afterCell[b] = tape.whole;
@@ -1749,22 +1739,18 @@ public final class MirrorTube {
                 return false;
             }
             long name = tape.word;
-            if (!readsPlace("in", COUNTRIES - 1)) {
+            if (!readsWord(Tape.IN) || !readsWhole(COUNTRIES - 1)) {
                 return false;
             }
             int country = tape.whole;
-            if (!readsPlace("at", LAST_CELL)) {
+            if (!readsWord(Tape.AT) || !readsWhole(LAST_CELL)) {
                 return false;
             }
             draft.addPerson(name, spotAt(country, tape.whole));
             return true;
         }
 
-        boolean readsPlace(String preposition, int last) {
-            return readsWord(preposition) && readsWhole(last);
-        }
-
-        boolean readsWord(String spelled) {
+        boolean readsWord(long spelled) {
             tape.next();
             return tape.isWord(spelled) || fails(FORM);
         }
@@ -1782,21 +1768,19 @@ public final class MirrorTube {
             return tape.whole <= last || fails(BOUNDS);
         }
 
-        boolean readsName() {
-            tape.next();
-            return tape.kind == Tape.WORD && !startsLine() || fails(FORM);
-        }
-
         boolean readsNewName() {
-            if (!readsName()) {
-                return false;
+            tape.next();
+            if (tape.kind != Tape.WORD || startsLine()) {
+                return fails(FORM);
             }
             return !draft.isNamed(tape.word) || fails(AGAIN);
         }
 
         /** The bit whose NAME comes next, if it has no cell told in these yet; NONE behind a FAULT. */
         int readsOldBit(int[] cells) {
-            if (!readsName()) {
+            tape.next();
+            if (tape.kind != Tape.WORD || startsLine()) {
+                fails(FORM);
                 return NONE;
             }
             int b = draft.bitNamed(tape.word);
