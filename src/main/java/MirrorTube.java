@@ -69,6 +69,7 @@ public final class MirrorTube {
     private final Scene scene = new Scene();
     private final Memory memory = new Memory();
     private final Rows rows = new Rows();
+    private final Shakes shakes = new Shakes();
     private int latestTrouble;
 
     public MirrorTube() {
@@ -566,7 +567,7 @@ public final class MirrorTube {
         if (!areShakes(seed, n)) {
             return refuse(BAD_NUMBER);
         }
-        Shakes shakes = new Shakes(seed, scene.day());
+        shakes.begin(seed, scene.day());
         for (int days = 0; days < n; days++) {
             shakes.passDay(scene.plan);
         }
@@ -580,7 +581,7 @@ public final class MirrorTube {
         if (!areShakes(seed, n)) {
             return refuse(BAD_NUMBER);
         }
-        Shakes shakes = new Shakes(seed, scene.day());
+        shakes.begin(seed, scene.day());
         int count = 0;
         for (int days = 0; days < n; days++) {
             shakes.passDay(scene.plan);
@@ -598,7 +599,7 @@ public final class MirrorTube {
         if (!areShakes(seed, n)) {
             return refuse(BAD_NUMBER);
         }
-        Shakes shakes = new Shakes(seed, scene.day());
+        shakes.begin(seed, scene.day());
         int count = 0;
         for (int days = 0; days < n; days++) {
             shakes.passDay(scene.plan);
@@ -687,9 +688,9 @@ public final class MirrorTube {
             case 1:
                 return scene.plan.bits;
             case 2:
-                return scene.plan.wants;
+                return scene.plan.cellsTold(scene.plan.wantCell);
             case 3:
-                return scene.plan.afters;
+                return scene.plan.cellsTold(scene.plan.afterCell);
             case 4:
                 return scene.plan.mets;
             case 5:
@@ -906,8 +907,6 @@ public final class MirrorTube {
         final int[] toldCell = new int[MAX_BITS];
         final int[] wantCell = new int[MAX_BITS];
         final int[] afterCell = new int[MAX_BITS];
-        int wants;
-        int afters;
         int mets;
         final int[] metCell = new int[MAX_METS];
         final long[] metColour = new long[MAX_METS];
@@ -920,8 +919,6 @@ public final class MirrorTube {
         void clear() {
             chance = 0;
             bits = 0;
-            wants = 0;
-            afters = 0;
             mets = 0;
             holidays = 0;
             people = 0;
@@ -996,6 +993,17 @@ public final class MirrorTube {
                 }
             }
             return false;
+        }
+
+        /** For how many bits these cells have been told. */
+        int cellsTold(int[] cells) {
+            int count = 0;
+            for (int b = 0; b < bits && b < cells.length; b++) {
+                if (cells[b] != NOTHING) {
+                    count++;
+                }
+            }
+            return count;
         }
 
         int weight(int b) {
@@ -1459,9 +1467,11 @@ public final class MirrorTube {
         int byPlain;
         int byHeavy;
 
-        Shakes(int firstSeed, int firstDay) {
+        void begin(int firstSeed, int firstDay) {
             seed = firstSeed;
             day = firstDay;
+            byPlain = 0;
+            byHeavy = 0;
         }
 
         void passDay(Plan plan) {
@@ -1612,10 +1622,10 @@ public final class MirrorTube {
                 return readsBit();
             }
             if (tape.isWord(Tape.WANT)) {
-                return readsWant();
+                return readsCellOfBit(draft.wantCell);
             }
             if (tape.isWord(Tape.AFTER)) {
-                return readsAfter();
+                return readsCellOfBit(draft.afterCell);
             }
             if (tape.isWord(Tape.MET)) {
                 return readsMet();
@@ -1679,23 +1689,13 @@ public final class MirrorTube {
             return tape.isWord(Tape.GLUED) ? GLUED : NONE;
         }
 
-        boolean readsWant() {
-            int b = readsOldBit(draft.wantCell);
+        /** Reads a bit and the cell that these are to hold for it. */
+        boolean readsCellOfBit(int[] cells) {
+            int b = readsOldBit(cells);
             if (b == NONE || !readsWord(Tape.AT) || !readsWhole(LAST_CELL)) {
                 return false;
             }
-            draft.wantCell[b] = tape.whole;
-            draft.wants++;
-            return true;
-        }
-
-        boolean readsAfter() {
-            int b = readsOldBit(draft.afterCell);
-            if (b == NONE || !readsWord(Tape.AT) || !readsWhole(LAST_CELL)) {
-                return false;
-            }
-            draft.afterCell[b] = tape.whole;
-            draft.afters++;
+            cells[b] = tape.whole;
             return true;
         }
 
