@@ -85,5 +85,9 @@ public final class BeadTest {
                 + "bit d glued x at 6;bit e glued x at 8;bit f glued x at 10");
         Check.answered(y, "watch(0)", y.watch(0), 0x555);
         Check.answered(y, "watch(1)", y.watch(1), 2 + 32 + 512);
+        MirrorTube z = Check.told("tube rolls 0;bit a glued x at 11;bit b glued x at 1");
+        Check.answered(z, "watch(1): both sides of 0", z.watch(1), 1);
+        MirrorTube w = Check.told("tube rolls 0;bit a glued x at 10;bit b glued x at 0");
+        Check.answered(w, "watch(1): both sides of 11", w.watch(1), 2048);
     }
 }

@@ -155,5 +155,8 @@ public final class NowTest {
         Check.answered(y, "mostTops(): by -6 it is under", y.mostTops(), 1);
         MirrorTube z = Check.told("tube rolls 0;bit a glued x at 0;bit b glued x at 0");
         Check.answered(z, "mostTops()", z.mostTops(), 0);
+        MirrorTube w = Check.told("tube rolls 0;bit a plain x at 9;bit b plain x at 5;bit c heavy x at 2;"
+                + "bit d glued x at 2;bit e light x at 9;bit f glued x at 1");
+        Check.answered(w, "mostTops(): by 6 alone", w.mostTops(), 12);
     }
 }

@@ -117,6 +117,11 @@ public final class PeopleTest {
         MirrorTube y = Check.told("tube rolls 0;bit l light x at 0;person p in 5 at 5");
         // From 5/5 (spot 66): 1/0 is 29 on, 2/0 30 on, 3/0 19 back.
         Check.answered(y, "farthest(0)", y.farthest(0), 2);
+        // From 4/0: to 0/0 24 steps and to 1/0 25, but 3 dear cells and 2.
+        MirrorTube z = Check.told("tube rolls 0;bit l light x at 0;person p in 4 at 0");
+        Check.due("way(0, 0, 0)", z.way(0, 0, 0), 27);
+        Check.due("way(0, 1, 0)", z.way(0, 1, 0), 27);
+        Check.answered(z, "farthest(0): the first such", z.farthest(0), 0);
         Check.refused(y, "farthest(1)", y.farthest(1), 1);
         Check.refused(y, "farthest(-1)", y.farthest(-1), 1);
     }

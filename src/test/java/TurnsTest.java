@@ -80,6 +80,8 @@ public final class TurnsTest {
         Check.answered(x, "bestTurn(): 0, too", x.bestTurn(), 3);
         MirrorTube y = Check.told("tube rolls 0;bit a plain x at 0;bit b light x at 0;want a at 3;want b at 10");
         Check.answered(y, "bestTurn(): -1 ahead of 3", y.bestTurn(), 2);
+        MirrorTube far = Check.told("tube rolls 0;bit a plain x at 0;want a at 3");
+        Check.answered(far, "bestTurn(): 3", far.bestTurn(), 6);
         MirrorTube z = Check.told("tube rolls 0;bit a plain x at 0");
         Check.answered(z, "bestTurn() without a wanted one", z.bestTurn(), 0);
     }

@@ -59,6 +59,18 @@ public final class TwoTest {
         MirrorTube y = Check.told("tube rolls 0;bit p plain x at 0;bit g glued x at 0");
         Check.answered(y, "rests()", y.rests(), 3);
         Check.answered(y, "rest(): -1 and 0", y.rest(), 23);
+        MirrorTube z = Check.told("tube rolls 0;bit a plain x at 6;bit b light x at 9;bit c glued x at 0;"
+                + "bit d light x at 11;bit e glued x at 7");
+        Check.answered(z, "rests(): 0 with -1, 0, 1", z.rests(), 3);
+        Check.answered(z, "rest(): 0 and -1", z.rest(), 32);
+        MirrorTube v = Check.told("tube rolls 0;bit a plain x at 1;bit b glued x at 4;bit c glued x at 2;"
+                + "bit d light x at 2;bit e plain x at 2;bit f heavy x at 1");
+        Check.answered(v, "rests(): -3 to 1 with 0", v.rests(), 5);
+        Check.answered(v, "rest(): -3 and 0", v.rest(), 3);
+        MirrorTube w = Check.told("tube rolls 0;bit a plain x at 3;bit b glued x at 9;bit c heavy x at 5;"
+                + "bit d plain x at 4;bit e glued x at 7;bit f light x at 1");
+        Check.answered(w, "rests(): 0 with 0 to 3", w.rests(), 4);
+        Check.answered(w, "rest(): 0 and 0", w.rest(), 33);
     }
 
     private static void noRest() {
