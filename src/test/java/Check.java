@@ -1,18 +1,35 @@
 import java.nio.charset.StandardCharsets;
+import java.util.Set;
+import java.util.TreeSet;
 
 /** What the tests of the project share: answers compared, texts fed. */
 final class Check {
     private static int wrong = 0;
     private static int looked = 0;
+    private static String heading = "";
+    private static final Set<Integer> promises = new TreeSet<>();
 
     private Check() {
+    }
+
+    /** The answers from here on are those that these words of the document, behind this promise, ask for. */
+    static void promise(int number, String words) {
+        heading = "promise " + number + ", '" + words + "': ";
+        promises.add(number);
+    }
+
+    static void allPromisesWereNamed(int last) {
+        heading = "";
+        for (int number = 1; number <= last; number++) {
+            due("promise " + number + " was named", promises.contains(number), true);
+        }
     }
 
     static void due(String call, long got, long want) {
         looked++;
         if (got != want) {
             wrong++;
-            System.out.println(call + " answered " + got + ", due is " + want);
+            System.out.println(heading + call + " answered " + got + ", due is " + want);
         }
     }
 
