@@ -11,6 +11,8 @@ final class Edge {
             + "holiday 2;holiday 3;holiday 10;holiday 20;holiday 30;holiday 40;holiday 98;holiday 99;"
             + "person p in 0 at 0;person q in 1 at 0;person r in 4 at 7;person s in 5 at 11";
 
+    static final String[] SORTS = {"light", "plain", "heavy", "glued"};
+
     private static final int[] FAR = {Integer.MIN_VALUE, Integer.MAX_VALUE};
 
     interface Ask {

@@ -1,4 +1,6 @@
+import java.util.List;
 import java.util.NoSuchElementException;
+import java.util.function.ToLongFunction;
 
 /** Boundary cases of promises 48 to 56: acts, undoing, images, and what is told. */
 final class EdgesActs {
@@ -36,6 +38,7 @@ final class EdgesActs {
         sizeNoneAndFull();
         sizeHasNoTrouble();
         troubleOfEach();
+        troubleOfAnswers();
         troubleOfLatest();
         calls512();
     }
@@ -495,7 +498,8 @@ final class EdgesActs {
     }
 
     private static void troubleOfEach() {
-        Check.promise(56, "0 it wasn't; 1 there is none such; 2 a number; 3 no room; 4 a FAULT; 5 not so; 6 there is none");
+        Check.promise(56, "0 it wasn't; 1 there is none such; 2 a number; 3 no room; 4 a FAULT; 5 not so; "
+                + "6 there is none");
         MirrorTube x = new MirrorTube();
         Check.due("trouble() of a new object", x.trouble(), 0);
         x.top(0);
@@ -526,6 +530,32 @@ final class EdgesActs {
         Check.due("trouble(): a number", x.trouble(), 2);
         x.rolls(8, 0, true);
         Check.due("trouble(): an answer of a long", x.trouble(), 0);
+    }
+
+    private static void troubleOfAnswers() {
+        Check.promise(56, "0 it wasn't");
+        List<ToLongFunction<MirrorTube>> asks = List.of(
+                x -> x.bit(0, 0), x -> x.bit(0, 1), x -> x.bit(0, 2), x -> x.bit(0, 3), x -> x.bit(0, 4),
+                x -> x.bit(0, 5), x -> x.bit(0, 6), x -> x.top(0), x -> x.stack(0), x -> x.seen(0, 0),
+                x -> x.lies(0, 0), x -> x.under(), x -> x.until(0), x -> x.behind(0, 0), x -> x.topsBehind(0),
+                x -> x.twins(), x -> x.mostTops(), x -> x.right(), x -> x.turnsTo(), x -> x.turnAt(0),
+                x -> x.bestTurn(), x -> x.can(0, 0), x -> x.made(0), x -> x.madeAt(0, 0), x -> x.fewestMade(),
+                x -> x.same(0), x -> x.joins(0), x -> x.alike(0, 1), x -> x.which(), x -> x.surely(), x -> x.look(),
+                x -> x.lookLeaves(), x -> x.judge(0), x -> x.rolls(8, 0, true), x -> x.rollsMore(8, 8, false),
+                x -> x.watch(0), x -> x.person(0, 0), x -> x.person(0, 1), x -> x.person(0, 2), x -> x.way(0, 0, 0),
+                x -> x.wayUp(0, 0, 0), x -> x.nearest(0, 0), x -> x.farthest(0), x -> x.ring(),
+                x -> x.two(3, 3, true), x -> x.rests(), x -> x.rest(), x -> x.shaken(0, 0, 60),
+                x -> x.topDays(0, 0, 60), x -> x.rightDays(0, 60), x -> x.turn(1), x -> x.go(0, true),
+                x -> x.waits(1), x -> x.undo() ? 1 : 0, x -> x.image(), x -> x.back(0) ? 1 : 0,
+                x -> Check.tell(x, TEXT));
+        MirrorTube x = Check.told(TEXT + ";want p at 0");
+        x.waits(1);
+        for (int k = 0; k < asks.size(); k++) {
+            Check.due("back(9)", x.back(9), false);
+            Check.due("trouble() behind back(9)", x.trouble(), 1);
+            asks.get(k).applyAsLong(x);
+            Check.due("trouble() behind the answer " + k, x.trouble(), 0);
+        }
     }
 
     private static void troubleOfLatest() {

@@ -52,7 +52,8 @@ final class EdgesBead {
         Check.promise(33, "just so many times (0 .. n)");
         for (int n = 0; n <= 8; n++) {
             int clicks = n;
-            Edge.within(Edge.FULL, "rolls(" + n + ", times, true)", 0, n, 2, (x, times) -> x.rolls(clicks, times, true));
+            Edge.within(Edge.FULL, "rolls(" + n + ", times, true)", 0, n, 2,
+                    (x, times) -> x.rolls(clicks, times, true));
         }
         Edge.needsTubeFirst("rolls(0, times, false)", 1, (x, times) -> x.rolls(0, times, false));
     }
@@ -148,7 +149,7 @@ final class EdgesBead {
     private static void watchNoneAndAll() {
         Check.promise(35, "seen so many to each side: 0, and 6");
         for (int at = 0; at < 12; at++) {
-            MirrorTube x = Edge.alone("plain", at);
+            MirrorTube x = Edge.alone(Edge.SORTS[at % 4], at);
             Check.answered(x, "watch(0) of one at " + at, x.watch(0), 1 << at);
             Check.answered(x, "watch(6) of one at " + at + ": all is seen from 0", x.watch(6), 1);
             // Five to each side leave just the cell across.

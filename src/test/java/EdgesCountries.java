@@ -23,6 +23,7 @@ final class EdgesCountries {
         lookFirstSuch();
         lookLast();
         lookAtNone();
+        lookPartsNothing();
         lookLeavesBounds();
         judgeNumbers();
         judgeFirstAndLast();
@@ -39,7 +40,7 @@ final class EdgesCountries {
     private static void joinsAtTheMirrors() {
         Check.promise(26, "at the mirrors of a country (cells 0, 11)");
         for (int at = 0; at < 12; at++) {
-            MirrorTube x = Edge.alone("plain", at);
+            MirrorTube x = Edge.alone(Edge.SORTS[at % 4], at);
             for (int country = 0; country < 6; country++) {
                 boolean there = EdgesNow.SHOWS[country][0] == at || EdgesNow.SHOWS[country][11] == at;
                 Check.answered(x, "joins(" + country + ") of one at " + at, x.joins(country), there ? 1 : 0);
@@ -49,10 +50,11 @@ final class EdgesCountries {
 
     private static void joinsSeen() {
         Check.promise(26, "Bits SEEN");
-        MirrorTube x = Check.told("tube rolls 0;bit a light x at 0;bit b plain x at 0;bit c light x at 11;bit d light x at 11");
+        MirrorTube x = Check.told("tube rolls 0;bit a light x at 0;bit b plain x at 0;bit c light x at 11;"
+                + "bit d light x at 11");
         Check.answered(x, "joins(0): those under are not seen", x.joins(0), 6);
-        MirrorTube y = Check.told("tube rolls 0;bit a light x at 1;bit b light x at 1;bit c light x at 1;bit d light x at 1;"
-                + "bit e light x at 0;bit f light x at 11");
+        MirrorTube y = Check.told("tube rolls 0;bit a light x at 1;bit b light x at 1;bit c light x at 1;"
+                + "bit d light x at 1;bit e light x at 0;bit f light x at 11");
         Check.answered(y, "joins(0): the last two", y.joins(0), 48);
     }
 
@@ -165,7 +167,8 @@ final class EdgesCountries {
     private static void lookLast() {
         Check.promise(30, "the cell by which at most fewest of these are left");
         // Left are 1, 2, 3: cell 11 shows them the tube's cells 2 (u), 7 (v), 6 (none); by all others two are alike.
-        MirrorTube x = Check.told("tube rolls 0;bit a glued u at 11;bit b heavy v at 7;bit c heavy u at 2;bit d plain u at 10;met 3 u");
+        MirrorTube x = Check.told("tube rolls 0;bit a glued u at 11;bit b heavy v at 7;bit c heavy u at 2;"
+                + "bit d plain u at 10;met 3 u");
         Check.answered(x, "which()", x.which(), 14);
         Check.answered(x, "look(): the last cell", x.look(), 11);
         Check.answered(x, "lookLeaves()", x.lookLeaves(), 1);
@@ -179,9 +182,20 @@ final class EdgesCountries {
         Check.answered(x, "look()", x.look(), 0);
         Check.answered(x, "lookLeaves()", x.lookLeaves(), 1);
         // Cells 0 and 1 show one of the two u in country 0, the other in country 1.
-        MirrorTube y = Check.told("tube rolls 0;bit a glued u at 0;bit d glued u at 1;bit b glued w at 3;bit c glued w at 10;met 3 w");
+        MirrorTube y = Check.told("tube rolls 0;bit a glued u at 0;bit d glued u at 1;bit b glued w at 3;"
+                + "bit c glued w at 10;met 3 w");
         Check.answered(y, "lookLeaves(): colours part them, not bits", y.lookLeaves(), 2);
         Check.answered(y, "look()", y.look(), 0);
+    }
+
+    private static void lookPartsNothing() {
+        Check.promise(30, "at most fewest of these are left: all six, whichever the cell");
+        // Each cell shows in all countries one of these, all of a colour, or in all of them nothing.
+        MirrorTube x = Check.told("tube rolls 0;bit a plain u at 0;bit b plain u at 1;bit c plain u at 4;"
+                + "bit d plain u at 5;bit e plain u at 8;bit f plain u at 9;met 0 u;met 9 u");
+        Check.answered(x, "which()", x.which(), 63);
+        Check.answered(x, "look(): the first cell", x.look(), 0);
+        Check.answered(x, "lookLeaves(): all six", x.lookLeaves(), 6);
     }
 
     private static void lookLeavesBounds() {

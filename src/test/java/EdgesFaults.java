@@ -229,7 +229,8 @@ final class EdgesFaults {
             good("tube rolls 5;bit " + word + "s light red at 0");
         }
         for (String word : new String[] {"rolls", "at", "in", "light", "plain", "heavy", "glued"}) {
-            good("tube rolls 5;bit " + word + " light " + word + " at 0;want " + word + " at 1;after " + word + " at 1");
+            good("tube rolls 5;bit " + word + " light " + word + " at 0;want " + word + " at 1;after " + word
+                    + " at 1");
         }
     }
 
@@ -303,7 +304,8 @@ final class EdgesFaults {
     }
 
     private static void toldAgain() {
-        Check.promise(5, "3 a NAME told again; a BIT wanted or told of after already; a cell met, a holiday told already");
+        Check.promise(5, "3 a NAME told again; at it; a BIT wanted already, or told of after already; at it; "
+                + "a cell met, a holiday told already; at its WHOLE");
         faulty(HEAD + ";bit a", 3, 38);
         faulty(HEAD + ";person a", 3, 41);
         faulty(HEAD + ";person p in 0 at 0;person p", 3, 60);

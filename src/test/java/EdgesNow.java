@@ -12,12 +12,17 @@ final class EdgesNow {
     private static final String PILE = "tube rolls 0;bit a light u at 0;bit b light v at 0;bit c light w at 0;"
             + "bit d light x at 0;bit e light y at 0;bit f light z at 0";
 
+    // A cell on, and a cell back, each of the others would lie otherwise.
+    private static final String BESIDE = "tube rolls 0;bit a light x at 0;bit b plain x at 0;bit c heavy x at 0;"
+            + "bit d glued x at 1";
+
     private EdgesNow() {
     }
 
     static void run() {
         bitNumbers();
         bitWhats();
+        bitOnTop();
         bitNotWanted();
         topNumbers();
         topOfNothing();
@@ -58,6 +63,15 @@ final class EdgesNow {
         Edge.within(Edge.FULL, "bit(5, what)", 0, 6, 1, (x, what) -> x.bit(5, what));
     }
 
+    private static void bitOnTop() {
+        Check.promise(6, "3 1 if it is on TOP");
+        MirrorTube x = Check.told(BESIDE);
+        int[] due = {0, 0, 1, 1};
+        for (int b = 0; b < 4; b++) {
+            Check.answered(x, "bit(" + b + ", 3)", x.bit(b, 3), due[b]);
+        }
+    }
+
     private static void bitNotWanted() {
         Check.promise(6, "5 the cell where it is wanted (-2), 6 that of after (-2)");
         MirrorTube x = Check.told("tube rolls 0;bit a light x at 5;bit b light x at 5;want a at 0;after b at 0");
@@ -86,11 +100,11 @@ final class EdgesNow {
 
     private static void topOfWeights() {
         Check.promise(7, "On TOP in a cell: of all bits there the one of greatest WEIGHT");
-        String[] sorts = {"light", "plain", "heavy", "glued"};
         for (int one = 0; one < 4; one++) {
             for (int other = 0; other < 4; other++) {
-                MirrorTube x = Check.told("tube rolls 0;bit a " + sorts[one] + " x at 11;bit b " + sorts[other] + " x at 11");
-                Check.answered(x, "top(11) of " + sorts[one] + ", " + sorts[other], x.top(11), other > one ? 1 : 0);
+                String pair = "bit a " + Edge.SORTS[one] + " x at 11;bit b " + Edge.SORTS[other] + " x at 11";
+                MirrorTube x = Check.told("tube rolls 0;" + pair);
+                Check.answered(x, "top(11) of " + pair, x.top(11), other > one ? 1 : 0);
             }
         }
     }
@@ -122,6 +136,9 @@ final class EdgesNow {
         x.turn(-1);
         Check.answered(x, "stack(10): all six", x.stack(10), 63);
         Check.answered(x, "stack(0): none", x.stack(0), 0);
+        MirrorTube y = Check.told(BESIDE);
+        Check.answered(y, "stack(0): three sorts", y.stack(0), 7);
+        Check.answered(y, "stack(1)", y.stack(1), 8);
     }
 
     private static void seenNumbers() {
@@ -138,7 +155,7 @@ final class EdgesNow {
     private static void seenByTheRing() {
         Check.promise(9, "in cell (c - 2 j), in cell (11 - c + 2 j), each by the ring (0 .. 11); -2");
         for (int at = 0; at < 12; at++) {
-            MirrorTube x = Edge.alone("light", at);
+            MirrorTube x = Edge.alone(Edge.SORTS[at % 4], at);
             for (int country = 0; country < 6; country++) {
                 for (int cell = 0; cell < 12; cell++) {
                     Check.answered(x, "seen(" + country + ", " + cell + ") of one at " + at, x.seen(country, cell),
@@ -162,7 +179,8 @@ final class EdgesNow {
     private static void liesUnder() {
         Check.promise(10, "(whether it is SEEN or not)");
         for (int at = 0; at < 12; at++) {
-            MirrorTube x = Check.told("tube rolls 0;bit a light x at " + at + ";bit b glued x at " + at);
+            MirrorTube x = Check.told("tube rolls 0;bit g glued x at " + at
+                    + ";bit a " + Edge.SORTS[at % 4] + " x at " + at);
             for (int country = 0; country < 6; country++) {
                 for (int cell = 0; cell < 12; cell++) {
                     if (SHOWS[country][cell] == at) {
@@ -186,6 +204,8 @@ final class EdgesNow {
         Check.answered(y, "under() of six in six cells", y.under(), 0);
         MirrorTube z = Check.told(PILE.replace("bit f light", "bit f plain"));
         Check.answered(z, "under() of six, the last one on top", z.under(), 31);
+        MirrorTube beside = Check.told(BESIDE);
+        Check.answered(beside, "under() of three sorts", beside.under(), 3);
     }
 
     private static void untilNumbers() {
@@ -246,7 +266,8 @@ final class EdgesNow {
     private static void goes(String sort, int cell, int[] due) {
         MirrorTube x = Edge.alone(sort, cell);
         for (int clicks = -6; clicks <= 6; clicks++) {
-            Check.answered(x, "behind(0, " + clicks + "), " + sort + " at " + cell, x.behind(0, clicks), due[clicks + 6]);
+            String call = "behind(0, " + clicks + "), " + sort + " at " + cell;
+            Check.answered(x, call, x.behind(0, clicks), due[clicks + 6]);
         }
     }
 
@@ -275,7 +296,8 @@ final class EdgesNow {
         Check.answered(one, "twins() of one bit", one.twins(), -2);
         MirrorTube six = Check.told(PILE);
         Check.answered(six, "twins() of six colours", six.twins(), -2);
-        MirrorTube near = Check.told("tube rolls 0;bit a light aaaaaaaa at 0;bit b light aaaaaaab at 0;bit c light aaaaaaa at 0");
+        MirrorTube near = Check.told("tube rolls 0;bit a light aaaaaaaa at 0;bit b light aaaaaaab at 0;"
+                + "bit c light aaaaaaa at 0");
         Check.answered(near, "twins() of colours nearly alike", near.twins(), -2);
     }
 
@@ -311,7 +333,8 @@ final class EdgesNow {
                 + "bit d heavy x at 5;bit e heavy x at 6");
         Check.answered(last, "mostTops(): by 6 alone", last.mostTops(), 12);
         // By each turn of -6 to -1 two come to lie in a cell.
-        MirrorTube now = Check.told("tube rolls 0;bit a plain x at 5;bit b heavy x at 4;bit c glued x at 1;bit d plain x at 6");
+        MirrorTube now = Check.told("tube rolls 0;bit a plain x at 5;bit b heavy x at 4;bit c glued x at 1;"
+                + "bit d plain x at 6");
         Check.answered(now, "mostTops(): 0, too", now.mostTops(), 6);
     }
 }

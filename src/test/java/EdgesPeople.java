@@ -10,6 +10,7 @@ final class EdgesPeople {
         personNumbers();
         personWhats();
         personSteps();
+        personsApart();
         wayNumbers();
         wayToWhereHeIs();
         wayThroughMirrors();
@@ -57,6 +58,27 @@ final class EdgesPeople {
         Check.answered(x, "person(0, 2): a turn is no step", x.person(0, 2), 6);
     }
 
+    private static void personsApart() {
+        Check.promise(36, "Of a person: of all four, each his own");
+        MirrorTube x = Check.told(GLUED + ";bit b light x at 0;bit c light x at 0;bit d light x at 0;"
+                + "bit e light x at 0;bit f light x at 0;person p in 0 at 2;person q in 1 at 2;"
+                + "person r in 3 at 7;person s in 5 at 11");
+        // Up to 0/3 and 0/4; to 1/1; to 3/6 and 3/5; to 5/10 and 5/9: 1/1, 3/5 and 5/9 show the glued one.
+        for (int p : new int[] {0, 0, 1, 2, 2, 3, 3}) {
+            x.go(p, true);
+        }
+        int[] cells = {4, 1, 5, 9};
+        int[] steps = {2, 5, 6, 6};
+        for (int p = 0; p < 4; p++) {
+            Check.answered(x, "person(" + p + ", 1)", x.person(p, 1), cells[p]);
+            Check.answered(x, "person(" + p + ", 2)", x.person(p, 2), steps[p]);
+        }
+        for (int b = 0; b < 6; b++) {
+            Check.due("bit(" + b + ", 2) stays", x.bit(b, 2), 0);
+        }
+        Check.due("size(7) stays", x.size(7), 0);
+    }
+
     private static void wayNumbers() {
         Check.promise(37, "NONE: 1; 2");
         Edge.within(Edge.FULL, "way(p, 0, 0)", 0, 3, 1, (x, p) -> x.way(p, 0, 0));
@@ -102,8 +124,8 @@ final class EdgesPeople {
 
     private static void wayByWeights() {
         Check.promise(37, "A step into a cell takes 1, and WEIGHT more of the bit SEEN there");
-        MirrorTube x = person("tube rolls 0;bit a light x at 1;bit b plain x at 2;bit c heavy x at 3;bit d glued x at 4;"
-                + "bit e light x at 4;bit f heavy x at 2", 0, 0);
+        MirrorTube x = person("tube rolls 0;bit a light x at 1;bit b plain x at 2;bit c heavy x at 3;"
+                + "bit d glued x at 4;bit e light x at 4;bit f heavy x at 2", 0, 0);
         int[] steps = {0, 2, 4, 4, 5, 1, 1};
         int length = 0;
         for (int cell = 0; cell < steps.length; cell++) {
@@ -166,14 +188,20 @@ final class EdgesPeople {
         Check.answered(x, "nearest(0, 1): it lies under no more", x.nearest(0, 1), 3);
         x.turn(5);
         Check.answered(x, "nearest(0, 1): it has come round", x.nearest(0, 1), -2);
+        MirrorTube heavy = person(GLUED + ";bit h heavy x at 11;bit i heavy x at 1", 0, 0);
+        // To 0/11 UP, 11 steps into both heavy ones' cells; DOWN into the glued one's, too.
+        Check.answered(heavy, "nearest(0, 1), a heavy one beside", heavy.nearest(0, 1), 17);
+        Check.answered(heavy, "nearest(0, 2), a heavy one beside", heavy.nearest(0, 2), 4);
     }
 
     private static void nearestThere() {
         Check.promise(39, "The WAY to the nearest country's cell in which a bit is SEEN: how long");
         int[] cells = {0, 1, 4, 5, 8, 9};
         for (int country = 0; country < 6; country++) {
-            MirrorTube x = person(GLUED, country, cells[country]);
-            Check.answered(x, "nearest(0, 0) at " + country + "/" + cells[country], x.nearest(0, 0), 0);
+            for (String sort : Edge.SORTS) {
+                MirrorTube x = person("tube rolls 0;bit a " + sort + " x at 0", country, cells[country]);
+                Check.answered(x, "nearest(0, 0) at " + country + "/" + cells[country], x.nearest(0, 0), 0);
+            }
         }
         // From 5/0 it is one step through the mirror to 0/0, nine to 5/9.
         MirrorTube y = person(GLUED, 5, 0);
@@ -198,7 +226,7 @@ final class EdgesPeople {
         Check.due("way() to 0/0", x.way(0, 0, 0), 27);
         Check.due("way() to 1/0", x.way(0, 1, 0), 27);
         Check.answered(x, "farthest(0): 0 and 1 alike", x.farthest(0), 0);
-        // From a cell 0 the one three countries on is 25 steps away, into two cells of the light one; no other is so far.
+        // From a cell 0 the one three countries on is 25 steps away, into two cells of the light one: 27, the most.
         for (int country = 0; country < 6; country++) {
             MirrorTube y = person("tube rolls 0;bit l light x at 2", country, 0);
             Check.due("way() to " + (country + 3) % 6 + "/0", y.way(0, (country + 3) % 6, 0), 27);
@@ -213,10 +241,9 @@ final class EdgesPeople {
 
     private static void ringFromWherever() {
         Check.promise(41, "UP through all countries, from wherever, to the same cell");
-        String[] sorts = {"light", "plain", "heavy", "glued"};
         for (int weight = 1; weight <= 4; weight++) {
-            MirrorTube x = Edge.alone(sorts[weight - 1], 11);
-            Check.answered(x, "ring() of one " + sorts[weight - 1], x.ring(), 72 + 6 * weight);
+            MirrorTube x = Edge.alone(Edge.SORTS[weight - 1], 11);
+            Check.answered(x, "ring() of one " + Edge.SORTS[weight - 1], x.ring(), 72 + 6 * weight);
         }
         MirrorTube six = Check.told("tube rolls 0;bit a glued x at 0;bit b glued x at 1;bit c glued x at 2;"
                 + "bit d glued x at 3;bit e glued x at 4;bit f glued x at 11");

@@ -41,15 +41,22 @@ final class EdgesTurns {
         Check.promise(17, "Wanted bits that lie where they must NOW, as bits. NONE: 1 (no TUBE)");
         Edge.needsTube("right()", x -> x.right());
         StringBuilder text = new StringBuilder("tube rolls 0");
-        for (char name = 'a'; name <= 'f'; name++) {
-            text.append(";bit ").append(name).append(" plain x at 11;want ").append(name).append(" at 11");
+        for (int b = 0; b < 6; b++) {
+            char name = (char) ('a' + b);
+            text.append(";bit ").append(name).append(' ').append(Edge.SORTS[b % 4]).append(" x at 11");
+            text.append(";want ").append(name).append(" at 11");
         }
         MirrorTube x = Check.told(text.toString());
         Check.answered(x, "right(): all six", x.right(), 63);
         x.turn(1);
-        Check.answered(x, "right(): none", x.right(), 0);
+        Check.answered(x, "right(): the heavy and the glued one", x.right(), 12);
+        x.turn(2);
+        Check.answered(x, "right(): the glued one", x.right(), 8);
         x.turn(-1);
+        x.turn(-2);
         Check.answered(x, "right(): all six again", x.right(), 63);
+        MirrorTube none = Check.told(PLAIN + ";want a at 1");
+        Check.answered(none, "right(): none", none.right(), 0);
     }
 
     private static void rightOfWantedOnly() {
@@ -142,6 +149,10 @@ final class EdgesTurns {
         rowIs("tube rolls 0;bit a light x at 0;want a at 6", -3);
         rowIs(HEAVY + ";want a at 5", 2, 2, 2, 2, 2);
         rowIs(HEAVY + ";want a at 7", -3, -3, -3, -3, -3);
+        // Both by one turn, then by two: 1 back and 2 forth bring the plain one 1 on, the heavy one, too.
+        rowIs(PLAIN + ";bit b heavy x at 0;want a at 3;want b at 1", 3);
+        rowIs(PLAIN + ";bit b heavy x at 0;want a at 10;want b at 11", -2);
+        rowIs(PLAIN + ";bit b heavy x at 0;want a at 1;want b at 1", -1, 2);
     }
 
     private static void bestTurnNoTube() {
@@ -164,7 +175,8 @@ final class EdgesTurns {
         Check.answered(none, "bestTurn(): none is wanted", none.bestTurn(), 0);
         MirrorTube two = Check.told(PLAIN + ";bit b plain x at 0;want a at 3;want b at 10");
         Check.answered(two, "bestTurn(): by -2 one, by 3 one", two.bestTurn(), 1);
-        MirrorTube three = Check.told(PLAIN + ";bit b plain x at 0;bit c plain x at 1;want a at 3;want b at 10;want c at 4");
+        MirrorTube three = Check.told(PLAIN + ";bit b plain x at 0;bit c plain x at 1;"
+                + "want a at 3;want b at 10;want c at 4");
         Check.answered(three, "bestTurn(): by -2 one, by 3 two", three.bestTurn(), 6);
     }
 
@@ -210,6 +222,8 @@ final class EdgesTurns {
         Check.answered(still, "made(0): it lay there", still.made(0), 1);
         MirrorTube moved = Check.told(PLAIN + ";after a at 1");
         Check.answered(moved, "made(0): it lay elsewhere", moved.made(0), 0);
+        MirrorTube heavy = Check.told(HEAVY + ";after a at 0");
+        Check.answered(heavy, "made(0): a heavy one lay there", heavy.made(0), 1);
     }
 
     private static void madeNotByZero() {
@@ -219,6 +233,12 @@ final class EdgesTurns {
             MirrorTube x = Check.told(PLAIN + ";after a at " + cell);
             Check.answered(x, "made(1) to cell " + cell, x.made(1), due[cell]);
         }
+        // Both told of: by one turn there is one, the other way round none.
+        MirrorTube both = Check.told(PLAIN + ";bit b heavy x at 0;after a at 3;after b at 1");
+        Check.answered(both, "made(1) of two told of", both.made(1), 1);
+        Check.answered(both, "madeAt(1, 0) of two told of", both.madeAt(1, 0), 6);
+        MirrorTube apart = Check.told(PLAIN + ";bit b heavy x at 0;after a at 9;after b at 1");
+        Check.answered(apart, "made(1) of two that went apart", apart.made(1), 0);
         int[] rows = {1, 6, 36, 216, 1296};
         MirrorTube free = Check.told(PLAIN);
         for (int n = 0; n <= 4; n++) {
@@ -254,6 +274,7 @@ final class EdgesTurns {
             int turns = n;
             Edge.within(PLAIN, "madeAt(" + n + ", i)", 0, rows[n] - 1, 1, (x, i) -> x.madeAt(turns, i));
         }
+        Edge.within(HEAVY + ";after a at 0", "madeAt(1, i) of a heavy one", 0, 1, 1, (x, i) -> x.madeAt(1, i));
         MirrorTube none = Check.told(PLAIN + ";after a at 6");
         Check.refused(none, "madeAt(1, 0) of no row", none.madeAt(1, 0), 1);
         Check.refused(none, "madeAt(0, 0) of no row", none.madeAt(0, 0), 1);
@@ -264,7 +285,8 @@ final class EdgesTurns {
     private static void madeAtWrongLength() {
         Check.promise(23, "NONE: 2");
         Edge.within(PLAIN, "madeAt(n, 0)", 0, 4, 2, (x, n) -> x.madeAt(n, 0));
-        Edge.within(PLAIN, "madeAt(n, 0), wrong n and wrong i", 0, 4, 2, (x, n) -> x.madeAt(n, n < 0 || n > 4 ? -1 : 0));
+        Edge.within(PLAIN, "madeAt(n, i), wrong n and wrong i", 0, 4, 2,
+                (x, n) -> x.madeAt(n, n < 0 || n > 4 ? -1 : 0));
     }
 
     private static void madeAtNone() {

@@ -12,6 +12,7 @@ final class EdgesTwo {
         twoTogether();
         twoLeastAndMost();
         restsNoneAndOne();
+        restsByTheWords();
         restNone();
         restFirst();
         shakenNumbers();
@@ -84,6 +85,50 @@ final class EdgesTwo {
         Check.answered(more, "rests(): neither could have MORE, as much he could", more.rests(), 3);
     }
 
+    private static void restsByTheWords() {
+        Check.promise(43, "REST: a pair by which neither could have more alone");
+        // Rests with the one's 3, the other one's 3, the other one's -3, the one's -3.
+        restsAre("bit a glued x at 3;bit b heavy x at 3;bit c plain x at 3;bit d light x at 4;bit e heavy x at 4", 6);
+        restsAre("bit a heavy x at 1;bit b heavy x at 2;bit c plain x at 0;bit d glued x at 3;bit e light x at 8", 4);
+        restsAre("bit a heavy x at 2;bit b glued x at 0;bit c plain x at 3;bit d plain x at 4;bit e heavy x at 1", 4);
+        restsAre("bit a glued x at 0;bit b light x at 0;bit c glued x at 1;bit d heavy x at 0;bit e plain x at 1", 6);
+        // No rests, for a turn by 3 alone, or by -3 alone, brings more.
+        restsAre("bit a glued x at 4;bit b light x at 8;bit c glued x at 2;bit d heavy x at 3;bit e plain x at 11;"
+                + "bit f heavy x at 1", 0);
+        restsAre("bit a glued x at 0;bit b plain x at 2;bit c light x at 0;bit d light x at 4;bit e heavy x at 1;"
+                + "bit f heavy x at 9", 0);
+    }
+
+    /** The rests as told, and as found by all that each has. */
+    private static void restsAre(String bits, int due) {
+        MirrorTube x = Check.told("tube rolls 0;" + bits);
+        int[][] ofOne = new int[7][7];
+        int[][] ofOther = new int[7][7];
+        int[] mostOfOne = {-9, -9, -9, -9, -9, -9, -9};
+        int[] mostOfOther = mostOfOne.clone();
+        for (int i = 0; i < 7; i++) {
+            for (int k = 0; k < 7; k++) {
+                ofOne[i][k] = x.two(i - 3, k - 3, false);
+                ofOther[i][k] = x.two(i - 3, k - 3, true);
+                mostOfOne[k] = Math.max(mostOfOne[k], ofOne[i][k]);
+                mostOfOther[i] = Math.max(mostOfOther[i], ofOther[i][k]);
+            }
+        }
+        int count = 0;
+        int first = -2;
+        for (int i = 6; i >= 0; i--) {
+            for (int k = 6; k >= 0; k--) {
+                if (ofOne[i][k] == mostOfOne[k] && ofOther[i][k] == mostOfOther[i]) {
+                    count++;
+                    first = 10 * i + k;
+                }
+            }
+        }
+        Check.due("the rests found of " + bits, count, due);
+        Check.answered(x, "rests() of " + bits, x.rests(), count);
+        Check.answered(x, "rest() of " + bits, x.rest(), first);
+    }
+
     private static void restNone() {
         Check.promise(44, "-2. NONE: 1 (no TUBE)");
         Edge.needsTube("rest()", x -> x.rest());
@@ -136,6 +181,12 @@ final class EdgesTwo {
         for (int n = 0; n <= 4; n++) {
             Check.answered(x, "shaken(0, 0, " + n + ")", x.shaken(0, 0, n), due[n]);
         }
+        MirrorTube heavy = Check.told("tube rolls 0;bit h heavy x at 0;bit p plain x at 0");
+        int[] halves = {0, 0, 0, 11, 11};
+        for (int n = 4; n >= 0; n--) {
+            Check.answered(heavy, "shaken(0, 0, " + n + ") of a heavy one", heavy.shaken(0, 0, n), halves[n]);
+            Check.answered(heavy, "shaken(1, 0, " + n + ") beside a heavy one", heavy.shaken(1, 0, n), due[n]);
+        }
         // 45438 becomes 0, the least there is, and that leaves 0: -3; then 74: 1.
         Check.answered(x, "shaken(0, 45438, 1)", x.shaken(0, 45438, 1), 9);
         Check.answered(x, "shaken(0, 45438, 2)", x.shaken(0, 45438, 2), 10);
@@ -171,7 +222,8 @@ final class EdgesTwo {
         }
         Check.answered(x, "shaken(0, 65536, 59): 56 draws", x.shaken(0, BACK, 59), 4);
         Check.answered(x, "shaken(0, 65536, 60): 56 draws", x.shaken(0, BACK, 60), 4);
-        MirrorTube week = Check.told(PLAIN + ";holiday 0;holiday 1;holiday 2;holiday 3;holiday 4;holiday 5;holiday 6;holiday 7");
+        MirrorTube week = Check.told(PLAIN + ";holiday 0;holiday 1;holiday 2;holiday 3;holiday 4;holiday 5;"
+                + "holiday 6;holiday 7");
         Check.answered(week, "shaken(0, 0, 8): all of them holidays", week.shaken(0, 0, 8), 0);
         Check.answered(week, "shaken(0, 0, 9)", week.shaken(0, 0, 9), 1);
     }

@@ -8,7 +8,10 @@ import java.util.Random;
 
 /** All promises: drawn runs of calls, each answer compared with the slow model's. */
 public final class RandomRunsTest {
-    private static final int RUNS = 600;
+    private static final int RUNS = 1500;
+    // What calls beyond these answer is free.
+    private static final int CALLS = 512;
+    private static final int CALLS_OF_ALIKE = 14;
     private static final int TEXTS = 20000;
     private static final String[] NAMES = {"a", "b", "c", "d", "at", "in", "light", "rolls", "abcdefgh", "zz"};
     private static final String[] COLOURS = {"red", "blue", "green", "bit", "tube", "red", "x"};
@@ -19,6 +22,7 @@ public final class RandomRunsTest {
 
     private static final Random draw = new Random(20261118L);
     private static final List<Method> face = new ArrayList<>();
+    private static int calls;
 
     private RandomRunsTest() {
     }
@@ -37,12 +41,13 @@ public final class RandomRunsTest {
             tell(x, y, text());
         }
         for (int k = 0; k < RUNS; k++) {
-            run(k % 10 == 0 ? 512 : 60);
+            run();
         }
         Check.end();
     }
 
-    private static void run(int calls) throws Exception {
+    private static void run() throws Exception {
+        calls = 0;
         MirrorTube x = new MirrorTube();
         SlowTube y = new SlowTube();
         if (draw.nextInt(10) > 0) {
@@ -54,7 +59,8 @@ public final class RandomRunsTest {
                 acts.add(m);
             }
         }
-        for (int k = 0; k < calls; k++) {
+        // A text is 40 feeds at most and a tube().
+        while (calls + 41 + 2 * CALLS_OF_ALIKE < CALLS) {
             if (draw.nextInt(150) == 0) {
                 tell(x, y, draw.nextBoolean() ? text() : validText());
             }
@@ -72,10 +78,15 @@ public final class RandomRunsTest {
         String name = m.getName() + Arrays.toString(args);
         Method slow = SlowTube.class.getDeclaredMethod(m.getName(), m.getParameterTypes());
         Check.due(name, result(m, x, args), result(slow, y, args));
-        alike(x, y, name);
+        Check.due("trouble() behind " + name, x.trouble(), y.trouble());
+        calls += 2;
+        if (draw.nextInt(12) == 0) {
+            alike(x, y, name);
+        }
     }
 
     private static void alike(MirrorTube x, SlowTube y, String name) {
+        calls += CALLS_OF_ALIKE;
         Check.due("trouble() behind " + name, x.trouble(), y.trouble());
         Check.due("where() behind " + name, x.where(), y.where());
         Check.due("fault() behind " + name, x.fault(), y.fault());
@@ -135,10 +146,12 @@ public final class RandomRunsTest {
             int d = Check.word(bytes, from + 12);
             int e = Check.word(bytes, from + 16);
             Check.due("feed of " + text, x.feed(a, b, c, d, e), y.feed(a, b, c, d, e));
+            calls++;
         }
         int n = draw.nextInt(20) == 0 ? draw.nextInt(bytes.length + 30) - 3 : bytes.length;
         String name = "tube(" + n + ") of " + text;
         Check.due(name, x.tube(n), y.tube(n));
+        calls++;
         alike(x, y, name);
     }
 
